@@ -601,11 +601,11 @@ public final class DeskStack {
         }
 
         int look() {
-            Row row = innermostRow();
-            if (row == null || !isUnderWay() || positions[count - 1] >= ends[count - 1]) {
+            if (!isUnderWay() || positions[count - 1] >= ends[count - 1]) {
                 return END_OF_TEXT;
             }
-            return row.charAt(positions[count - 1]);
+            Row row = rows[count - 1];
+            return row == null ? END_OF_TEXT : row.charAt(positions[count - 1]);
         }
 
         void pass() {

@@ -50,7 +50,15 @@ final class FaultsTest {
         }
         for (String command : new String[] {"v", "~", "k", "X"}) {
             check.program("[3]" + command, Check.INDEX, "[1]");
+            check.program("4[3]" + command, Check.INDEX, "4 [1]");
         }
+        // A text below the numbers that are wanted is no fault.
+        check.program("[]4v", "3", "[0] 2");
+        check.program("[]4~", "3", "[0] -4");
+        check.program("[]4k", "3", "[0]");
+        check.program("[]4X", "3", "[0] 0");
+        check.program("[]4 5+", "4", "[0] 9");
+        check.program("[]4 5<a", "4", "[0]");
     }
 
     private static void order(Check check) {

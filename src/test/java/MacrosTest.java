@@ -41,6 +41,11 @@ final class MacrosTest {
         check.program(ten + "2 2.01=a", "5", "");
         check.program(ten + "2 2.01>a", "6", "10");
         check.program(ten + "_1 _1.5<a", "6", "10");
+        check.program(ten + "1.05 1.1>a", "6", "10");
+        check.program(ten + "1.1 1.05<a", "6", "10");
+        check.program(ten + "1.1 1.05>a", "5", "");
+        check.program(ten + "1.50 1.5=a", "6", "10");
+        check.program(ten + "0.00 0=a", "6", "10");
         check.program(ten + "2 1<a5", "7", "10 5");
         check.due("held(0)", check.program(ten + "2 1<a", "6", "10").held(0), 1);
         // A condition that does not hold wants nothing of the register.
