@@ -623,10 +623,10 @@ public final class DeskStack {
 
     /** Arithmetic on numbers m / 10^places, with its faults. */
     private static final class Decimal {
-        static final long GREATEST = 999999999999999999L;
-        static final long GREATEST_ROOT = 999999999L;
-        static final int HALVINGS = 31;
-        static final long[] POWERS = {
+        private static final long GREATEST = 999999999999999999L;
+        private static final long GREATEST_ROOT = 999999999L;
+        private static final int HALVINGS = 31;
+        private static final long[] POWERS = {
             1L, 10L, 100L, 1000L, 10000L, 100000L, 1000000L, 10000000L, 100000000L, 1000000000L,
             10000000000L, 100000000000L, 1000000000000L, 10000000000000L, 100000000000000L,
             1000000000000000L, 10000000000000000L, 100000000000000000L, 1000000000000000000L};
