@@ -37,6 +37,36 @@ final class Check {
         return desk;
     }
 
+    /**
+     * A command with a fault changes nothing and its cost is not counted: the object is then as one
+     * whose run ended there with q, but for what q costs. The command may stand in a program at @.
+     */
+    void refused(String before, String command, String fault) {
+        String program = before.indexOf('@') < 0 ? before + "@" : before;
+        DeskStack ended = new DeskStack();
+        write(ended, program.replace("@", "q"));
+        int cost = ended.run(FUEL) - 1;
+        DeskStack desk = new DeskStack();
+        String with = program.replace("@", command);
+        write(desk, with);
+        String call = "run of " + with.replace("\n", "\\n");
+        due(call, run(desk, FUEL), fault);
+        due("cost() after " + call, desk.cost(), cost);
+        due("the state after " + call, state(desk), state(ended));
+        due("erase() after " + call, desk.erase(), with.length());
+        due("what lies within after " + call, within(desk), within(ended));
+    }
+
+    /** A call that is refused changes nothing: the object is as its twin, which did not get the call. */
+    void same(String call, DeskStack desk, DeskStack twin) {
+        due("cost() after " + call, desk.cost(), twin.cost());
+        due("the state after " + call, state(desk), state(twin));
+        due("run of the program after " + call, run(desk, FUEL), run(twin, FUEL));
+        due("the state after " + call + " and run", state(desk), state(twin));
+        due("erase() after " + call, desk.erase(), twin.erase());
+        due("what lies within after " + call, within(desk), within(twin));
+    }
+
     void end() {
         System.out.println(wrong == 0 ? calls + " answers are as due" : wrong + " of " + calls + " answers are not as due");
         if (wrong != 0) {
@@ -93,6 +123,30 @@ final class Check {
 
     static String held(DeskStack desk) {
         return desk.held(0) + " " + desk.held(1) + " " + desk.held(2) + " " + desk.held(3);
+    }
+
+    /** All that the calls show but the cost and the program. */
+    static String state(DeskStack desk) {
+        String stack = stack(desk);
+        String prints = prints(desk);
+        return "k" + desk.precision() + " stack" + (stack.isEmpty() ? "" : " " + stack)
+            + " prints" + (prints.isEmpty() ? "" : " " + prints) + " held " + held(desk);
+    }
+
+    /** What a text on top does and what the registers hold; the object's items are gone afterwards. */
+    static String within(DeskStack desk) {
+        StringBuilder found = new StringBuilder(shownBy(desk, "x"));
+        for (int r = 0; r < 4; r++) {
+            String unload = "L" + (char) ('a' + r);
+            found.append(shownBy(desk, "c" + unload.repeat(desk.held(r)))).append(shownBy(desk, "x"));
+        }
+        return found.toString();
+    }
+
+    private static String shownBy(DeskStack desk, String program) {
+        desk.erase();
+        write(desk, program);
+        return run(desk, FUEL) + ": " + stack(desk) + "; ";
     }
 
     static String join(String between, String text, int times) {

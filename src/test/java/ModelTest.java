@@ -2,14 +2,20 @@ import java.util.Random;
 
 /** Promises 1 to 14: rows of calls with programs put together at random, against the model. */
 final class ModelTest {
-    private static final int OBJECTS = 6000;
-    private static final int CALLS = 30;
+    private static final int OBJECTS = 20000;
+    /** An object promises nothing after its 512th call; a program and a look at the state need this many at most. */
+    private static final int CALLS = 512;
+    private static final int CALLS_OF_A_STEP = 240;
     private static final String[] COMMANDS = {
         "+", "-", "*", "/", "%", "v", "~", "d", "r", "D", "c", "z", "k", "K", "p", "X", "x", "q", "d", "r", "p", "z"};
     private static final String[] PLACES = {"", ".", ".0", ".5", ".25", ".125", ".000000001", ".123456789"};
     private static final String[] WHOLES = {
         "0", "1", "2", "3", "7", "9", "10", "12", "99", "1000", "999999999", "1000000000", "99999999999999999",
         "100000000000000000", "999999999999999999"};
+    /** What brings the stack, a register or the prints near their limits. */
+    private static final String[] FILLS = {
+        "1" + "d".repeat(38), "[7]" + "d".repeat(39), "5Sa".repeat(9), "[7]Sb".repeat(10), "1" + "p".repeat(39),
+        "1[ddddd]sc" + "lcx".repeat(7)};
     private static final int[] FUELS = {0, 1, 2, 5, 10, 50, 499, 500, 500, 500, 500, -1, 501};
 
     private final Random random;
@@ -17,6 +23,7 @@ final class ModelTest {
     private final DeskStack desk = new DeskStack();
     private final Model model = new Model();
     private final StringBuilder calls = new StringBuilder();
+    private int used = 0;
 
     private ModelTest(long seed, Check check) {
         random = new Random(seed);
@@ -27,17 +34,18 @@ final class ModelTest {
         Check check = new Check();
         for (int seed = 0; seed < OBJECTS; seed++) {
             ModelTest test = new ModelTest(seed, check);
-            for (int i = 0; i < CALLS; i++) {
-                test.call();
+            while (test.used + CALLS_OF_A_STEP <= CALLS) {
+                test.step();
             }
         }
         check.end();
     }
 
-    private void call() {
+    private void step() {
         int kind = random.nextInt(20);
         if (kind == 0) {
             calls.append(" reset");
+            used++;
             desk.reset();
             model.reset();
         } else if (kind == 1) {
@@ -48,22 +56,26 @@ final class ModelTest {
             write(text(1 + random.nextInt(8)));
         } else {
             due("erase", desk.erase(), model.erase());
-            String program = program(random.nextInt(4));
-            for (int i = 0; i < program.length(); i += 8) {
+            String fill = random.nextInt(4) == 0 ? FILLS[random.nextInt(FILLS.length)] : "";
+            String program = fill + program(random.nextInt(4));
+            for (int i = 0; i < program.length() && i <= 160; i += 8) {
                 write(program.substring(i, Math.min(i + 8, program.length())));
             }
             run(FUELS[random.nextInt(FUELS.length)]);
         }
         check.due("the state after" + calls, state(), model.state());
+        used += 10 + 2 * desk.depth() + 3 * desk.prints();
     }
 
     private void due(String call, long got, long want) {
         calls.append(' ').append(call);
+        used++;
         check.due(calls.toString(), got, want);
     }
 
     private void run(int fuel) {
         calls.append(" run(").append(fuel).append(')');
+        used++;
         check.due(calls.toString(), Check.run(desk, fuel), model.run(fuel));
     }
 
@@ -72,10 +84,7 @@ final class ModelTest {
     }
 
     private String state() {
-        String stack = Check.stack(desk);
-        String prints = Check.prints(desk);
-        return desk.cost() + " k" + desk.precision() + " stack" + (stack.isEmpty() ? "" : " " + stack)
-            + " prints" + (prints.isEmpty() ? "" : " " + prints) + " held " + Check.held(desk);
+        return desk.cost() + " " + Check.state(desk);
     }
 
     private String text(int length) {
